@@ -123,6 +123,10 @@ public final class TriedTest {
         fewest(y, 0, 7, 1, 1);
         fewest(y, 0, 6, 1, 8);
         fewest(y, 0, 3, 1, 1);
+        // three sayings in the rooms themselves could begin at 5, but two are the fewest: one in room 3 for 0 and 1
+        LastSentence z = Check.house("n8;r8;r8;r8;r8;r8;r8;d0 1 9;d1 2 9;d0 2 9;d3 4 1;d4 1 1;d3 5 1;d5 0 1;p0 3 0;");
+        fewest(z, 0, 7, 2, 4);
+        fewest(z, 0, 3, 1, 7);
     }
 
     private static void fewestNeededNone() {
