@@ -970,7 +970,7 @@ public final class LastSentence {
         }
 
         private void sayOrNot(int r, int won, int most) {
-            before[r][0] = between[r][0];
+            // with no saying left nothing may be missing, at any hour: before[r][0] stays
             for (int c = 1; c <= most; c++) {
                 before[r][c] = between[r][c] | winnable(between[r][c - 1], won);
             }

@@ -256,6 +256,19 @@ public final class ManorTest {
         check.due("undo(1)", x.undo(1), Check.NOT);
         check.due("goBack(0)", x.goBack(0), Check.NOT);
         check.due("goBack(1)", x.goBack(1), Check.NOT);
+        // what an earlier text told, or one at fault, is not in the next
+        check.due("a text at fault", Check.tell(x, "n6;r6;r4;d0 1 3;p0 5 0;p1 9 1;x"), -11);
+        check.due("another text", Check.tell(x, "n3;r1;p0 1 0;"), 1);
+        check.same("another manor", Check.look(x), seeded(Check.house("n3;r1;p0 1 0;")));
+        check.due("a third text", Check.tell(x, "n2;"), 0);
+        check.same("a third manor", Check.look(x), seeded(Check.house("n2;")));
+        check.due("blanks alone", Check.tell(x, " "), 0);
+        check.same("no manor", Check.look(x), seeded(new LastSentence()));
+    }
+
+    private static String seeded(LastSentence x) {
+        x.seed(77);
+        return Check.look(x);
     }
 
     private static void toldOfAll() {

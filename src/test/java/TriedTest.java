@@ -39,6 +39,11 @@ public final class TriedTest {
             check.refused(x, "way(" + r + ", 0)", () -> x.way(r, 0), Check.UNKNOWN);
             check.refused(x, "way(0, " + r + ")", () -> x.way(0, r), Check.UNKNOWN);
         }
+        LastSentence star = Check.house("n1;r1;r1;r1;r1;d0 1 1;d2 0 2;d0 3 4;d2 3 9;");
+        check.due("wall(1, 2) by room 0", star.wall(1, 2), 3);
+        check.due("wall(3, 2) by room 0", star.wall(3, 2), 6);
+        check.due("way(3, 2)", star.way(3, 2), 1);
+        check.due("way(1, 3)", star.way(1, 3), 2);
         LastSentence row = Check.house("n1;r1;r1;r1;r1;r1;r1;d0 1 9;d1 2 9;d2 3 9;d3 4 9;d4 5 9;");
         check.due("the longest wall", row.wall(5, 0), 45);
         check.due("the longest way", row.way(0, 5), 5);
@@ -103,6 +108,12 @@ public final class TriedTest {
         fewest(row, 0, 32, Check.NONE, Check.NONE);
         fewest(row, 0, 16, 1, 5);
         fewest(row, 2, 62, 5, 1);
+        // two neighbours of one room: staying, going on and going back are all open
+        LastSentence fork = Check.house("n4;r4;r4;r4;d0 1 9;d0 2 9;p0 1 1;");
+        fewest(fork, 0, 7, 3, 1);
+        fewest(fork, 0, 6, 2, 1);
+        fewest(fork, 0, 3, 2, 2);
+        fewest(fork, 0, 5, 2, 2);
         LastSentence apart = Check.house("n6;r6;r6;p0 20 0;");
         fewest(apart, 0, 1, 1, 5);
         fewest(apart, 0, 3, Check.NONE, Check.NONE);
