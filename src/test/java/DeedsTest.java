@@ -94,6 +94,15 @@ public final class DeedsTest {
         for (int p : new int[] {-1, 2, 6, Integer.MIN_VALUE, Integer.MAX_VALUE}) {
             check.refused(x, "say(" + p + ")", () -> x.say(p), Check.UNKNOWN);
         }
+        // no run of 512 calls comes so far; the refusal stands all the same
+        for (int i = 1; i < 90000; i++) {
+            x.say(0);
+        }
+        check.due("told(7)", x.told(7), 90000);
+        check.refused(x, "say(0) at 90000", () -> x.say(0), Check.FULL);
+        check.refused(x, "say(2) at 90000", () -> x.say(2), Check.UNKNOWN);
+        x.undo(1);
+        check.due("say(0) at 89999", x.say(0), 0);
     }
 
     private static void goes() {
