@@ -1,5 +1,11 @@
+import java.io.IOException;
+import java.nio.file.Files;
+import java.nio.file.Path;
 import java.util.ArrayList;
 import java.util.List;
+import java.util.function.IntSupplier;
+import java.util.function.Supplier;
+import java.util.function.ToIntFunction;
 
 /** Counts answers that are due and those that are not, and ends a test program with its exit code. */
 final class Check {
@@ -9,7 +15,10 @@ final class Check {
     static final int NOT = -1000000003;
     static final int FULL = -1000000004;
 
+    private static final String DOCUMENT = document(Path.of("../shared/DOC.md"));
+
     private final String name;
+    private String sentence = "";
     private int right = 0;
     private int wrong = 0;
 
@@ -24,7 +33,7 @@ final class Check {
         }
         wrong++;
         if (wrong <= 40) {
-            System.out.println(name + ": " + call + " answered " + got + ", due is " + want);
+            System.out.println(name + ": " + call + " answered " + got + ", due is " + want + sentence);
         }
     }
 
@@ -34,11 +43,50 @@ final class Check {
             return;
         }
         wrong++;
-        System.out.println(name + ": " + what + "\n  is  " + got + "\n  due " + want);
+        if (wrong <= 40) {
+            System.out.println(name + ": " + what + "\n  is  " + got + "\n  due " + want + sentence);
+        }
+    }
+
+    /** The sentence of the document that the next answers are due by: told with those that are wrong. */
+    void says(String quoted) {
+        sentence = "\n  by: " + quoted;
+        if (!DOCUMENT.isEmpty() && !DOCUMENT.contains(quoted)) {
+            System.out.println(name + ": remark: the document does not say (any more): " + quoted);
+        }
+    }
+
+    private static String document(Path path) {
+        try {
+            return Files.isReadable(path) ? Files.readString(path).replaceAll("\\s+", " ") : "";
+        } catch (IOException e) {
+            return "";
+        }
+    }
+
+    /** A call that must be refused so; behind it a house goes on as its twin does, which never had that call. */
+    void refusedOf(Supplier<LastSentence> made, String call, ToIntFunction<LastSentence> doIt, int want) {
+        LastSentence asked = made.get();
+        due(call, doIt.applyAsInt(asked), want);
+        same("all behind the refused " + call, lookThrough(asked), lookThrough(made.get()));
+    }
+
+    /** All that can be found out, also by changing it: what can be undone, IMAGES, THE SEED, THE TEXT. */
+    static String lookThrough(LastSentence x) {
+        StringBuilder seen = new StringBuilder(look(x));
+        for (int i = x.told(13); i > 0; i--) {
+            seen.append(x.undo(1)).append(look(x));
+        }
+        for (int i = 0; i < 2; i++) {
+            seen.append(x.goBack(i)).append(look(x));
+            seen.append(x.drift(20)).append(look(x));
+        }
+        seen.append(x.manor()).append(look(x));
+        return seen.toString();
     }
 
     /** A call that must be refused in that way and change nothing that can be looked at. */
-    void refused(LastSentence x, String call, java.util.function.IntSupplier doIt, int want) {
+    void refused(LastSentence x, String call, IntSupplier doIt, int want) {
         String ahead = look(x);
         due(call, doIt.getAsInt(), want);
         same("after the refused " + call, look(x), ahead);
